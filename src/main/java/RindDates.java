@@ -836,15 +836,15 @@ public final class RindDates {
             case 7:
                 return farm.oldWheels();
             case 8:
-                return there(rows);
+                return thereOf(rows);
             case 9:
-                return there(texts);
+                return thereOf(texts);
             default:
                 return farm.keptThere();
         }
     }
 
-    private static int there(Row[] all) {
+    private static int thereOf(Row[] all) {
         int there = 0;
         for (int r = 0; r < all.length; r++) {
             there += all[r].isMissing() ? 0 : 1;

@@ -73,6 +73,9 @@ public final class DeedsTest {
         Due.is("sold, made once", x.make(2), STATE);
         Due.is("make(3)", x.make(3), BAD);
         Due.is("make(-1)", x.make(-1), BAD);
+        fill(x, 39);
+        Due.is("the 40th deed", x.make(1), 4);
+        x.undo(39);
         fill(x, 40);
         Due.is("the 41st deed", x.make(1), FULL);
         Due.is("STATE ahead of FULL", x.make(0), STATE);
@@ -97,11 +100,13 @@ public final class DeedsTest {
         Due.is("sell(3)", x.sell(3), BAD);
         Due.is("sell(-1)", x.sell(-1), BAD);
         x.undo(5);
-        fill(x, 12);
-        x.undo(12);
-        while (x.count(2) < 40) {
+        while (x.count(2) < 39) {
             x.say(0);
         }
+        Due.is("on the shelf", x.count(5) >> 2, 1);
+        Due.is("the 40th deed", x.sell(2), 6);
+        x.undo(39);
+        x.say(0);
         Due.is("the 41st deed", x.sell(2), FULL);
         Due.is("STATE ahead of FULL", x.sell(1), STATE);
         Due.is("without wheels", new RindDates().sell(0), BAD);

@@ -214,6 +214,9 @@ public final class FarmTest {
         Due.is("mark(-1, 1)", x.mark(-1, 1), BAD);
         x.day();
         Due.is("speaking: it would run", x.mark(4, 4), 1);
+        Due.is("no matter that both hold", x.mark(5, 5), 0);
+        RindDates younger = Due.farm("a1020923421 l80");
+        Due.is("one holds nothing of it", younger.mark(0, 5), 2);
         RindDates thin = Due.farm("a9999999901 s99 r10");
         Due.is("a show is thinner than a wheel", thin.mark(0, 1), 100 + 20 - 54);
         Due.is("a show is thinner than an old one", thin.mark(0, 3), 100 + 56 - 20);

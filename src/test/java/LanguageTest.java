@@ -43,10 +43,9 @@ public final class LanguageTest {
         while (hidden.find()) {
             Due.is("private " + hidden.group(1), face.contains(hidden.group(1)) ? 1 : 0, 0);
         }
-        Matcher member = Pattern.compile("\n(?:    |        )(?!private |public |return )(?:static |final )*\\w[\\w\\[\\]]* \\w+(?:\\(|;| =)").matcher(code);
+        Matcher member = Pattern.compile("\n    (?!private |public |})\\S.*").matcher(code);
         while (member.find()) {
-            boolean local = member.group().startsWith("\n        ");
-            Due.is("visible in the package: " + member.group().trim(), local ? 0 : 1, 0);
+            Due.is("visible in the package: " + member.group().trim(), 1, 0);
         }
         Due.is("classes", code.split("\\bclass\\b").length - 1 <= 12 ? 1 : 0, 1);
     }

@@ -75,6 +75,13 @@ public final class PlansTest {
         x.make(0);
         Due.is("held at most, another matter is said", x.plan(0, 1, 6, 0), 1);
         Due.rowIs("another matter", x, 0, 1);
+        x.undo(0);
+        Due.is("as it was at first", x.plan(0, 2, 1, 0), 2);
+        x.say(3);
+        x.say(3);
+        Due.is("as it is now", x.plan(0, 2, 0, 0), 0);
+        Due.is("without a saying", x.plan(0, 1, 1, 0), 0);
+        Due.rowIs("nothing is said", x, 0, NONE);
     }
 
     private static void promise25() {
@@ -108,6 +115,8 @@ public final class PlansTest {
         for (int v : unlike) {
             Due.row(x, 4, 0, v);
             Due.finds("a saying of " + v, x, x.through(4), UNLIKE);
+            Due.row(x, 4, v, 0);
+            Due.finds("a first saying of " + v, x, x.through(4), UNLIKE);
         }
         Due.finds("a missing row", x, x.through(5), NOTHING);
         Due.is("through(6)", x.through(6), BAD);

@@ -34,6 +34,8 @@ public final class ToldTest {
         }
         Due.is("nothing was said", x.count(3), 9);
         Due.is("no deeds", x.count(2), 0);
+        RindDates younger = Due.farm("a0000000960 w10");
+        Due.is("the younger one forgets", younger.duel(2), 6);
         RindDates full = Due.farm("a0000000060 w10");
         for (int k = 0; k < 16; k++) {
             full.say(k / 4);
@@ -252,6 +254,7 @@ public final class ToldTest {
         }
         x.undo(0);
         Due.is("silent at the limit", x.count(4), 1);
+        Due.is("old ones of these", Due.farm("a0000000001 l10 w10 l10 s10 o10").count(7), 4);
         Due.is("count(11)", x.count(11), BAD);
         Due.is("count(-1)", x.count(-1), BAD);
         Due.is("not silent without wheels", new RindDates().count(4), 0);

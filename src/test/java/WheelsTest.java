@@ -81,9 +81,14 @@ public final class WheelsTest {
         Due.row(x, 0, 17, 4);
         Due.is("one alone", x.test(0, 0), 0);
         Due.is("apart", x.asked(), 1);
+        Due.row(x, 0, 17, 8);
+        Due.is("a wheel alone", x.test(0, 0), 0);
+        Due.is("apart", x.asked(), 1);
         Due.row(x, 0, 17, 7);
         Due.is("no kind", x.test(0, 0), NONE);
         Due.is("NONE leaves asked()", x.asked(), 0);
+        Due.row(x, 0, 100, 0);
+        Due.is("anger to 100", x.test(1, 0), NONE);
         RindDates never = Due.farm("a0000000001 w10");
         Due.row(never, 0, 4, 1);
         Due.is("young or runny, never apart but by anger 0, where both are 0", never.test(0, 0), 0);
@@ -96,7 +101,7 @@ public final class WheelsTest {
         x.lay(1, 0, -1);
         Due.row(x, 2, 101, 0);
         Due.row(x, 3, 0, 100);
-        Due.row(x, 4, 0, 0, 0, -1);
+        Due.row(x, 4, 0, 0, 0, 100);
         int[] rows = {1, 2, 3, 4, 5};
         int[] findings = {SIZE, UNLIKE, UNLIKE, UNLIKE, NOTHING};
         for (int k = 0; k < rows.length; k++) {
@@ -104,6 +109,10 @@ public final class WheelsTest {
             Due.finds("kinds(0, " + rows[k] + ")", x, x.kinds(0, rows[k]), findings[k]);
             Due.finds("test(0, " + rows[k] + ")", x, x.test(0, rows[k]), findings[k]);
         }
+        Due.row(x, 4, 0, 0, 0, -1);
+        Due.finds("a later rind below 0", x, x.salts(0, 4), UNLIKE);
+        Due.row(x, 4, 0, 0, 101, 0);
+        Due.finds("a later anger", x, x.salts(0, 4), UNLIKE);
         int[][] bad = {{1, 5}, {-1, 5}, {0, 6}, {0, -1}};
         for (int[] b : bad) {
             Due.is("salts(" + b[0] + ", " + b[1] + ")", x.salts(b[0], b[1]), BAD);
