@@ -1381,7 +1381,7 @@ public final class RindDates {
 
         /** Goes on to the next plan; behind the last one it is the first again. */
         private void advance() {
-            int d = days - 1;
+            int d = Math.min(days, said.length) - 1;
             while (d > 0 && said[d] == MATTERS - 1) {
                 said[d] = NONE;
                 d--;
