@@ -8,6 +8,9 @@ public final class ModelTest {
 
     private static long state = 20261119;
     private static final int[] well = new int[CALLS.length];
+    /** Of one object: at most 512 are promised, and one step of a run makes some 85 at most. */
+    private static final int MOST_CALLS = 512 - 85;
+    private static int calls;
 
     private static int lot(int below) {
         state = state * 6364136223846793005L + 1442695040888963407L;
@@ -96,6 +99,7 @@ public final class ModelTest {
     }
 
     private static void same(String call, int first, long got, long want) {
+        calls++;
         Due.is(call + "(" + first + ", ..)", got, want);
     }
 
@@ -166,13 +170,14 @@ public final class ModelTest {
         }
     }
 
-    private static void run(int calls) {
+    private static void run() {
         RindDates x = new RindDates();
         Model m = new Model();
+        calls = 0;
         if (lot(20) != 0) {
             writeText(x, m);
         }
-        for (int k = 0; k < calls; k++) {
+        for (int k = 0; calls < MOST_CALLS; k++) {
             if (lot(60) == 0) {
                 writeText(x, m);
             }
@@ -197,10 +202,10 @@ public final class ModelTest {
     }
 
     public static void main(String[] args) {
-        int runs = args.length > 0 ? Integer.parseInt(args[0]) : 2000;
+        int runs = args.length > 0 ? Integer.parseInt(args[0]) : 2500;
         state += args.length > 1 ? Long.parseLong(args[1]) : 0;
         for (int k = 0; k < runs; k++) {
-            run(60);
+            run();
         }
         for (int which = 0; which < CALLS.length; which++) {
             if (args.length > 0) {
