@@ -59,6 +59,7 @@ public final class DeedsEdgesTest {
         Due.sentence("17 say: BAD", DeedsEdgesTest::sayBad);
         Due.sentence("17 say: STATE: no WHEELS", DeedsEdgesTest::sayState);
         Due.sentence("17 say: FULL", DeedsEdgesTest::sayFull);
+        Due.sentence("17 say: (FULL last.)", DeedsEdgesTest::sayOrder);
     }
 
     private static void saySome() {
@@ -81,8 +82,6 @@ public final class DeedsEdgesTest {
         }
         RindDates none = new RindDates();
         Due.leaves("BAD ahead of STATE", none, () -> none.say(NONE), BAD);
-        RindDates full = filled(Due.farm("a1234567860 w10"), 40);
-        Due.leaves("BAD ahead of FULL", full, () -> full.say(-1), BAD);
     }
 
     private static void sayState() {
@@ -95,6 +94,13 @@ public final class DeedsEdgesTest {
         RindDates x = filled(Due.farm("a1234567860 w10"), 39);
         Due.is("the 40th deed", x.say(3), 6);
         Due.leaves("the 41st", x, () -> x.say(3), FULL);
+    }
+
+    private static void sayOrder() {
+        RindDates x = filled(Due.farm("a1234567860 w10"), 40);
+        Due.leaves("BAD ahead of FULL: -1", x, () -> x.say(-1), BAD);
+        Due.leaves("BAD ahead of FULL: 4", x, () -> x.say(4), BAD);
+        Due.leaves("FULL", x, () -> x.say(0), FULL);
     }
 
     private static void made() {
@@ -126,8 +132,6 @@ public final class DeedsEdgesTest {
         }
         RindDates none = new RindDates();
         Due.leaves("without wheels", none, () -> none.make(0), BAD);
-        RindDates full = filled(Due.farm("a1234567860 w10"), 40);
-        Due.leaves("BAD ahead of FULL", full, () -> full.make(1), BAD);
     }
 
     private static void makeState() {
@@ -152,6 +156,7 @@ public final class DeedsEdgesTest {
         x.make(0);
         filled(x, 40);
         Due.leaves("STATE ahead of FULL", x, () -> x.make(0), STATE);
+        Due.leaves("BAD ahead of FULL", x, () -> x.make(1), BAD);
     }
 
     private static void sold() {
@@ -184,8 +189,6 @@ public final class DeedsEdgesTest {
         }
         RindDates none = new RindDates();
         Due.leaves("without wheels", none, () -> none.sell(0), BAD);
-        RindDates full = filled(Due.farm("a1234567860 w10"), 40);
-        Due.leaves("BAD ahead of FULL", full, () -> full.sell(1), BAD);
     }
 
     private static void sellState() {
@@ -219,6 +222,7 @@ public final class DeedsEdgesTest {
         filled(x, 40);
         Due.leaves("gone: STATE ahead of FULL", x, () -> x.sell(0), STATE);
         Due.leaves("not made: STATE ahead of FULL", x, () -> x.sell(1), STATE);
+        Due.leaves("BAD ahead of FULL", x, () -> x.sell(2), BAD);
     }
 
     private static void undone() {

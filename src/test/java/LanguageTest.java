@@ -79,6 +79,14 @@ public final class LanguageTest {
         Due.is("constructors", RindDates.class.getDeclaredConstructors().length, 1);
     }
 
+    private static Set<String> names() {
+        Set<String> names = new TreeSet<>();
+        for (String one : FACE.split(" ")) {
+            names.add(one.substring(0, one.indexOf('(')));
+        }
+        return names;
+    }
+
     private static void members(Class<?> own) {
         Set<String> open = new TreeSet<>();
         Set<String> hidden = new TreeSet<>();
@@ -88,10 +96,7 @@ public final class LanguageTest {
                 Due.is("what " + m.getName() + " takes is 7 at most", m.getParameterCount() <= 7 ? 1 : 0, 1);
             }
         }
-        Set<String> face = new TreeSet<>();
-        for (String one : FACE.split(" ")) {
-            face.add(one.substring(0, one.indexOf('(')));
-        }
+        Set<String> face = names();
         for (String name : open) {
             Due.is(name + " is of the face", face.contains(name) ? 1 : 0, 1);
         }
@@ -116,6 +121,10 @@ public final class LanguageTest {
         int kind = inside.getModifiers();
         Due.is(inside.getName() + " is static", Modifier.isStatic(kind) ? 1 : 0, 1);
         Due.is(inside.getName() + " is not public", Modifier.isPublic(kind) || Modifier.isProtected(kind) ? 1 : 0, 0);
+        for (Method m : inside.getDeclaredMethods()) {
+            boolean bears = Modifier.isPrivate(m.getModifiers()) && names().contains(m.getName());
+            Due.is("the private " + m.getName() + " bears no public name", bears && !m.isSynthetic() ? 1 : 0, 0);
+        }
         int fields = 0;
         for (Field f : inside.getDeclaredFields()) {
             fieldIs(f);

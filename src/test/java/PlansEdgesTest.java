@@ -461,6 +461,7 @@ public final class PlansEdgesTest {
         sureIs(by("a0999000060 w10", 27), 0b0001, 0b1110);
         sureIs(by("a9990000060 w10", 28), 0b0000, 0b1000);
         sureIs(by("a9990000060 w10", 27, 27), 0b1000, 0b0111);
+        sureIs(by("a9000000060 w10", 12, 13), 0b0001, 0b0000);
         sureIs(by("a0000000060 w10", 3, 4, 4, 4), 0b0000, 0b0000);
     }
 

@@ -17,6 +17,7 @@ public final class TermsEdgesTest {
     }
 
     private static void answers() {
+        Due.sentence("ANSWERS: BAD -1, FULL -2, STATE -4, SPENT -6, FINDING -3, NONE -9", TermsEdgesTest::constants);
         Due.sentence("ANSWERS: BAD is the first that fits", TermsEdgesTest::badIsFirst);
         Due.sentence("ANSWERS: STATE fits ahead of FINDING", TermsEdgesTest::stateAheadOfFinding);
         Due.sentence("ANSWERS: NONE: a ROW that something was to come to stays as it is then", TermsEdgesTest::noneLeavesRow);
@@ -32,6 +33,15 @@ public final class TermsEdgesTest {
         Due.sentence("ANSWERS: in lowest terms", TermsEdgesTest::lowestTerms);
         Due.sentence("ANSWERS: the lower number above 0 (0 by 1)", TermsEdgesTest::noughtByOne);
         Due.sentence("ANSWERS: sets of WHEELS, KINDS, MATTERS, numbers 0 .. 9 by bits: least, greatest, all, none", TermsEdgesTest::sets);
+    }
+
+    private static void constants() {
+        Due.is("BAD", RindDates.BAD, -1);
+        Due.is("FULL", RindDates.FULL, -2);
+        Due.is("FINDING", RindDates.FINDING, -3);
+        Due.is("STATE", RindDates.STATE, -4);
+        Due.is("SPENT", RindDates.SPENT, -6);
+        Due.is("NONE", RindDates.NONE, -9);
     }
 
     private static void badIsFirst() {

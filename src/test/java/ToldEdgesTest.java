@@ -267,6 +267,10 @@ public final class ToldEdgesTest {
             Due.is("the wheel that is made", x.count(5), 1 << made[n - 1]);
             Due.is("no day", x.count(1), 0);
         }
+        // 193084: it modulo 3 is 1, though it is even.
+        RindDates even = Due.farm("a9000000001 w14");
+        Due.is("from the seed 4", even.lots(1, 4), 9);
+        Due.is("the wheel", even.count(5), 1);
     }
 
     private static void lotsDays() {
@@ -281,6 +285,10 @@ public final class ToldEdgesTest {
         Due.is("it was made, though it is gone", x.lots(1, 1), 6);
         Due.is("four deeds", x.count(2), 4);
         Due.is("day 3", x.count(1), 3);
+        // 241355: it modulo 3 is 2, though it is odd, and the wheel is not made.
+        RindDates odd = Due.farm("a9000000001 w14");
+        Due.is("from the seed 5", odd.lots(1, 5), 8);
+        Due.is("a day, nothing made", odd.count(1) - odd.count(5), 1);
         RindDates sold = Due.farm("a9000000001 w94");
         sold.make(0);
         sold.sell(0);
