@@ -136,9 +136,11 @@ public final class LanguageTest {
 
     /** A method goes from its header's ") {" to the brace that ends it. */
     private static void lengths(String code) {
-        Matcher header = Pattern.compile("\\b(?!if|for|while|switch|else|new|return)\\w+\\s+(?!if|for|while|switch)(\\w+)\\s*\\([^(){};]*\\)\\s*\\{")
-            .matcher(code);
+        String named = "\\b(?!(?:else|new|return)\\b)[\\w\\]>]+\\s+(?!(?:if|for|while|switch)\\b)(\\w+)";
+        Matcher header = Pattern.compile(named + "\\s*\\([^(){};]*\\)\\s*\\{").matcher(code);
+        int methods = 0;
         while (header.find()) {
+            methods++;
             int depth = 1;
             int lines = 1;
             for (int i = header.end(); i < code.length() && depth > 0; i++) {
@@ -148,5 +150,6 @@ public final class LanguageTest {
             }
             Due.is("lines of " + header.group(1), lines <= 65 ? 0 : lines, 0);
         }
+        Due.is("the methods were seen", methods >= 41 ? 1 : 0, 1);
     }
 }

@@ -319,8 +319,8 @@ public final class RowsEdgesTest {
         Due.row(x, 0, 1, 2, 3);
         Due.row(x, 1, 4, 5);
         int[][] beyond = {{0, 0, 3}, {0, 1, 2}, {2, 0, 2}, {3, 0, 1}, {0, 2, 1}, {-1, 0, 1}, {0, -1, 1}, {-1, 0, 2}, {0, 0, GREATEST},
-            {1, 0, GREATEST}, {0, 1, GREATEST}, {GREATEST, 0, 1}, {0, GREATEST, 1}, {GREATEST, GREATEST, GREATEST}, {LEAST, 0, 1},
-            {0, LEAST, GREATEST}};
+            {1, 0, GREATEST}, {0, 1, GREATEST}, {1, 1, GREATEST}, {3, 2, GREATEST}, {GREATEST, 0, 1}, {0, GREATEST, 1},
+            {GREATEST, GREATEST, GREATEST}, {LEAST, 0, 1}, {0, LEAST, GREATEST}};
         for (int[] b : beyond) {
             String call = "copy(0, " + b[0] + ", 1, " + b[1] + ", " + b[2] + ")";
             Due.leavesBy(call, x, () -> x.copy(0, b[0], 1, b[1], b[2]), BEYOND);
